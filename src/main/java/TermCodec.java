@@ -654,38 +654,34 @@ public final class TermCodec {
 
         private long takeUnsigned() {
             long number = 0;
-            for (int n = 1; n <= MAX_UNSIGNED_GROUPS; n++) {
-                int b = takeByte();
-                number |= (long) (b & 127) << (7 * (n - 1));
-                if (b < 128) {
-                    if (number > Integer.MAX_VALUE || Format.unsignedGroups(number) != n) {
-                        fail(FAULT_FORM, next - 1);
-                    }
-                    return number;
-                }
+            int n = 0;
+            int b = 128;
+            while (b >= 128 && n < MAX_UNSIGNED_GROUPS) {
+                b = takeByte();
+                number |= (long) (b & 127) << (7 * n);
+                n++;
             }
-            fail(FAULT_FORM, next - 1);
-            return 0;
+            if (b >= 128 || number > Integer.MAX_VALUE || Format.unsignedGroups(number) != n) {
+                fail(FAULT_FORM, next - 1);
+            }
+            return number;
         }
 
         private long takeSigned() {
             long number = 0;
-            for (int n = 1; n <= MAX_SIGNED_GROUPS; n++) {
-                int b = takeByte();
-                number |= (long) (b & 127) << (7 * (n - 1));
-                if (b < 128) {
-                    return signedOf(number, n, b);
-                }
+            int n = 0;
+            int b = 128;
+            while (b >= 128 && n < MAX_SIGNED_GROUPS) {
+                b = takeByte();
+                number |= (long) (b & 127) << (7 * n);
+                n++;
             }
-            fail(FAULT_FORM, next - 1);
-            return 0;
-        }
-
-        private long signedOf(long groups, int n, int last) {
             boolean full = n == MAX_SIGNED_GROUPS;
+            if (!full && (b & 64) != 0) {
+                number |= -1L << (7 * n);
+            }
             // Of the tenth group a long has the lowest bit alone: the others must be its sign.
-            boolean isLong = !full || last == 0 || last == 127;
-            long number = !full && (last & 64) != 0 ? groups | (-1L << (7 * n)) : groups;
+            boolean isLong = !full || b == 0 || b == 127;
             if (!isLong || Format.signedGroups(number) != n) {
                 fail(FAULT_FORM, next - 1);
             }

@@ -182,6 +182,9 @@ public final class ReadTest {
     private static void unbound() {
         bad("00 01", 4, 0);
         bad("01 00 02", 4, 1);
+        bad("01 00 40", 4, 1);
+        bad("01 00 7f", 4, 1);
+        bad("01 00 80 01", 4, 1);
         bad("01 00 c8 01", 4, 1);
         bad("03 04 00 01", 4, 2);
         bad("02 01 00 01 00 01", 4, 4);

@@ -120,6 +120,8 @@ public final class StackTest {
         x.drop();
         Check.due("3: APPLY as the 200th", x.node(2, 0), 198);
         Check.due("3: nodes with APPLY", x.look(1), 200);
+        Check.due("3: the 200th written", Check.written(x), "02 0a 0a");
+        Check.due("3: a part of the 200th", x.of(2, 0), 10);
     }
 
     private static void nodeDepth() {
@@ -180,6 +182,11 @@ public final class StackTest {
         x.drop();
         Check.due("4: old bytes are gone", x.bytes(0, 1), 200);
         Check.due("4: old bytes are gone, written", Check.written(x), "08 01 00");
+        for (int i = 0; i < 8; i++) {
+            x.more(0x3132333435363738L, i < 7 ? 8 : 7);
+        }
+        Check.due("5: 64 in the 200th", x.look(7), 66);
+        Check.due("5: the last of the 200th", x.byteAt(0, 63), 0x38);
     }
 
     private static void more() {
@@ -273,6 +280,8 @@ public final class StackTest {
             Check.due("7: up to 200", x.twice(), true);
         }
         Check.due("7: 200 nodes", x.look(1), 200);
+        Check.due("7: the last two", x.same(), true);
+        Check.due("7: the last NODE", x.of(49, 0), 10);
         Check.due("7: no room", x.twice(), false);
     }
 
@@ -299,6 +308,13 @@ public final class StackTest {
         Check.due("8: LAMBDA", x.split(), 1);
         Check.due("8: lacks of its body", x.of(0, 3), 3);
         Check.due("8: all", Check.stackOf(x), "00 03 | 0b");
+        x.bytes(0x6162, 2);
+        x.node(7, 64);
+        x.node(2, 0);
+        x.node(1, 0);
+        Check.due("8: LAMBDA as the only TERM", x.split(), 1);
+        Check.due("8: APPLY as the only TERM", x.split(), 2);
+        Check.due("8: all of the only TERM", Check.stackOf(x), "07 c0 00 | 08 02 61 62");
     }
 
     private static void splitOfNone() {
