@@ -315,6 +315,14 @@ public final class StackTest {
         Check.due("8: LAMBDA as the only TERM", x.split(), 1);
         Check.due("8: APPLY as the only TERM", x.split(), 2);
         Check.due("8: all of the only TERM", Check.stackOf(x), "07 c0 00 | 08 02 61 62");
+        for (int i = 0; i < 198; i++) {
+            x.node(10, 0);
+        }
+        x.node(11, 0);
+        x.node(2, 0);
+        Check.due("8: with 200 NODES", x.split(), 2);
+        Check.due("8: 199 NODES then", x.look(1), 199);
+        Check.due("8: the argument of the 200th", x.of(0, 0), 11);
     }
 
     private static void splitOfNone() {
