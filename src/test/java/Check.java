@@ -2,8 +2,24 @@
 final class Check {
     private static int wrong = 0;
     private static int done = 0;
+    private static String sentence = "";
 
     private Check() {
+    }
+
+    /** A sentence of the document, and calls of which one answers otherwise where it does not hold. */
+    static void sentence(String text, Runnable test) {
+        int before = done;
+        sentence = "\"" + text + "\": ";
+        try {
+            test.run();
+        } catch (RuntimeException e) {
+            wrong("a call threw " + e);
+        }
+        if (done == before) {
+            wrong("nothing was asked");
+        }
+        sentence = "";
     }
 
     static void due(String what, long got, long want) {
@@ -47,7 +63,7 @@ final class Check {
     static void wrong(String text) {
         wrong++;
         if (wrong <= 50) {
-            System.out.println(text);
+            System.out.println(sentence + text);
         }
     }
 

@@ -230,24 +230,12 @@ public final class ReadTest {
         Check.due("14: its depth", x.of(0, 2), 60);
     }
 
-    /** A TERM of n NODES, an odd number, whose DEPTH is small. */
-    private static String broad(int n) {
-        if (n == 1) {
-            return "0a";
-        }
-        int left = (n - 1) / 2;
-        if (left % 2 == 0) {
-            left++;
-        }
-        return "02" + broad(left) + broad(n - 1 - left);
-    }
-
     private static void room() {
-        good(broad(199));
-        good("03" + broad(199));
-        bad(broad(201), 6, 200);
-        bad("03 04" + broad(199), 6, 200);
-        bad("03 04" + broad(199).substring(0, 2 * 198), 1, 200);
+        good(Make.broad(199));
+        good("03" + Make.broad(199));
+        bad(Make.broad(201), 6, 200);
+        bad("03 04" + Make.broad(199), 6, 200);
+        bad("03 04" + Make.broad(199).substring(0, 2 * 198), 1, 200);
         TermCodec x = Check.having("0a 07 05 02 0a 0b 02 0a 0c");
         for (int i = 0; i < 198; i++) {
             x.node(11, 0);
