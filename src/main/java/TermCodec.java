@@ -560,7 +560,7 @@ public final class TermCodec {
      */
     private static final class Reader {
         /** A NODE waits at most once for each level around the one that is read, and twice there. */
-        private static final int MAX_WAITING = MAX_DEPTH + 2;
+        private static final int MAX_WAITING = MAX_DEPTH + 1;
 
         private final ByteRow input;
         private final TermStack stack;

@@ -1,5 +1,9 @@
 /** What the tests share: answers against what is due, and short ways to bytes. */
 final class Check {
+    /** Bounds of loops over what a class answers: a wrong one must fail, not run on for ever. */
+    private static final int MOST_BYTES = 4096;
+    private static final int MOST_TERMS = 200;
+
     private static int wrong = 0;
     private static int done = 0;
     private static String sentence = "";
@@ -96,7 +100,7 @@ final class Check {
 
     static String outputOf(TermCodec x) {
         StringBuilder text = new StringBuilder();
-        for (int k = 0; x.output(k) != TermCodec.NONE; k++) {
+        for (int k = 0; k <= MOST_BYTES && x.output(k) != TermCodec.NONE; k++) {
             text.append(k == 0 ? "" : " ").append(String.format("%02x", x.output(k)));
         }
         return text.toString();
@@ -112,7 +116,7 @@ final class Check {
     /** All that can be seen of the stack: its terms from the last one on. The stack is empty then. */
     static String stackOf(TermCodec x) {
         StringBuilder text = new StringBuilder();
-        while (x.look(0) > 0) {
+        for (int t = 0; t <= MOST_TERMS && x.look(0) > 0; t++) {
             text.append(text.length() == 0 ? "" : " | ").append(written(x));
             x.drop();
         }

@@ -242,8 +242,17 @@ public final class EdgeBytesTest {
         Check.due("read", x.read(), 0);
         Check.due("number", x.number(0), -65);
         Check.due("the end", x.read(), NONE);
+        x.write();
+        Check.due("write leaves the INPUT", x.look(3), 3);
+        x.give(0x0b, 1);
+        Check.due("give leaves the OUTPUT", Check.outputOf(x), "07 bf 7f 07 bf 7f");
+        x.cut(2);
+        Check.due("cut leaves the OUTPUT", x.look(2), 6);
         x.wipe();
-        Check.due("wipe leaves the INPUT", x.look(3), 3);
+        Check.due("wipe leaves the INPUT", x.look(3), 2);
+        x.give(0x01, 1);
+        Check.due("its bytes, too", x.read(), 0);
+        Check.due("what was given behind them", x.number(0), 191);
         x.turn();
         Check.due("an empty OUTPUT", x.look(3), 0);
         Check.due("nothing to read", x.read(), NONE);
@@ -251,10 +260,7 @@ public final class EdgeBytesTest {
         x.turn();
         Check.due("a full OUTPUT", x.look(3), FULL);
         Check.due("no room behind it", x.give(1, 1), false);
-        while (x.look(4) < FULL) {
-            x.clear();
-            Check.due("read all of it", x.read(), 0);
-        }
+        Make.readUpTo(x, FULL);
         Check.due("its last TERM", x.byteAt(0, x.of(0, 5) - 1), x.output(FULL - 1));
     }
 

@@ -364,10 +364,7 @@ public final class EdgeLookTest {
         Check.due("no OUTPUT", x.look(2), 0);
         Check.due("a full INPUT", x.look(3), 4096);
         Check.due("AT", x.look(4), 0);
-        while (x.look(4) < 4096) {
-            x.clear();
-            Check.due("read", x.read(), 0);
-        }
+        Make.readUpTo(x, 4096);
         Check.due("AT at the end", x.look(4), 4096);
         Check.due("the INPUT stays", x.look(3), 4096);
     }
@@ -411,10 +408,7 @@ public final class EdgeLookTest {
         TermCodec y = new TermCodec();
         Make.input(y, 4095);
         y.give(0xff, 1);
-        while (y.look(4) < 4095) {
-            y.clear();
-            y.read();
-        }
+        Make.readUpTo(y, 4095);
         y.read();
         Check.due("the last byte of a full INPUT", y.look(6), 4095);
     }

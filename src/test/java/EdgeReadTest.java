@@ -5,6 +5,8 @@ public final class EdgeReadTest {
     private static final String NINE_OPEN = "80 80 80 80 80 80 80 80 80";
 
     public static void main(String[] args) {
+        Check.sentence("written in one way alone, and read again, whatever bytes there are", EdgeReadTest::anyBytes);
+        Check.sentence("all variables that are read are bound", EdgeReadTest::allBound);
         Check.sentence("READING a TERM goes from byte to byte; the first FAULT that is seen ends it",
             EdgeReadTest::firstFault);
         Check.sentence("1: the INPUT ends where a byte is to be read, for its kind", EdgeReadTest::endForKind);
@@ -53,6 +55,54 @@ public final class EdgeReadTest {
         return String.format("%02x", b);
     }
 
+    /** Each pair of bytes, with a third one that is a kind or a number: what is read is written as it was. */
+    private static void anyBytes() {
+        TermCodec x = new TermCodec();
+        int used = 0;
+        for (int pair = 0; pair < 1 << 16; pair++) {
+            if (used == 50) {
+                x = new TermCodec();
+                used = 0;
+            }
+            used++;
+            x.clear();
+            x.wipe();
+            x.cut(0);
+            x.give(pair << 8 | 1, 3);
+            int fault = x.read();
+            if (fault == 0) {
+                sameAsGiven(x, pair << 8 | 1);
+            } else {
+                Check.due("a fault of " + hex(pair >> 8) + hex(pair & 255), fault >= 1 && fault <= 4, true);
+            }
+        }
+    }
+
+    private static void sameAsGiven(TermCodec x, int given) {
+        int size = x.write();
+        Check.due("how many bytes of " + Integer.toHexString(given), size, x.look(4));
+        for (int k = 0; k < size && k < 3; k++) {
+            Check.due("byte " + k + " of " + Integer.toHexString(given), x.output(k), given >> (16 - 8 * k) & 255);
+        }
+    }
+
+    private static void allBound() {
+        String[] all = {"01 00 01", "01 01 00 02", "01 02 00 01 01 00 02", "02 01 00 01 01 03 04 00 01", "0a",
+            "01".repeat(59) + "00 3b"};
+        for (String hex : all) {
+            TermCodec x = Check.having(hex);
+            Check.due("read " + hex, x.read(), 0);
+            Check.due("CLOSED: " + hex, x.of(0, 3), 0);
+        }
+        for (int i = 1; i <= 200; i++) {
+            TermCodec x = new TermCodec();
+            x.node(0, i);
+            x.write();
+            x.turn();
+            Check.due("VARIABLE " + i + " alone", x.read(), 4);
+        }
+    }
+
     private static void firstFault() {
         bad("02 06 20 0c", 3, 2);
         bad("02 00 01 0c", 4, 1);
@@ -94,10 +144,7 @@ public final class EdgeReadTest {
         TermCodec y = new TermCodec();
         Make.input(y, 4095);
         y.give(0x03, 1);
-        while (y.look(4) < 4095) {
-            y.clear();
-            y.read();
-        }
+        Make.readUpTo(y, 4095);
         fault(y, "the end of a full INPUT", 1, 4096);
     }
 

@@ -408,6 +408,14 @@ public final class EdgeStackTest {
         Check.due("the first of both", x.byteAt(3, 63), 64);
         x.drop();
         Check.due("what was below", x.of(0, 0), 11);
+        x.clear();
+        x.bytes(0x61, 1);
+        x.twice();
+        x.node(2, 0);
+        x.twice();
+        x.split();
+        x.more(0x62, 1);
+        Check.due("each has NODES of its own", Check.stackOf(x), "08 02 61 62 | 08 01 61 | 02 08 01 61 08 01 61");
     }
 
     private static void noRoomForTwice() {

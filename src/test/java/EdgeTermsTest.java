@@ -150,7 +150,7 @@ public final class EdgeTermsTest {
         Check.due("of its argument", x.of(2, 1), 6);
         x.clear();
         Make.units(x, 1);
-        while (x.look(1) <= 63) {
+        for (int i = 0; i < 6; i++) {
             x.twice();
             x.node(2, 0);
         }
@@ -319,10 +319,7 @@ public final class EdgeTermsTest {
         Check.due("the 4096th byte", x.give(0x0b, 1), true);
         Check.due("no 4097th", x.give(0x0b, 1), false);
         Check.due("4096", x.look(3), 4096);
-        while (x.look(4) < 4095) {
-            x.clear();
-            Check.due("read up to it", x.read(), 0);
-        }
+        Make.readUpTo(x, 4095);
         Check.due("read the 4096th byte", x.read(), 0);
         Check.due("it is the one that was given", x.of(0, 0), 11);
     }

@@ -77,6 +77,17 @@ final class Make {
         x.wipe();
     }
 
+    /** Whole TERMS of what input made are read, up to this place; the last one alone is on the STACK. */
+    static void readUpTo(TermCodec x, int place) {
+        for (int i = 0; i <= place / LONG_LENGTH; i++) {
+            if (x.look(4) < place) {
+                x.clear();
+                x.read();
+            }
+        }
+        Check.due("AT up to " + place, x.look(4), place);
+    }
+
     /** An object whose INPUT has these bytes, in hexadecimal, and whose STACK has so many UNITS. */
     static TermCodec readingBehind(int units, String hex) {
         TermCodec x = Check.having(hex);

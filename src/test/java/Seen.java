@@ -3,6 +3,7 @@ import java.util.function.Supplier;
 /** All that can be seen of an object, each piece of it on a new one, since an object has 512 calls. */
 final class Seen {
     private static final int PIECE = 200;
+    private static final int MOST_READ = 70;
 
     private final Supplier<TermCodec> make;
     private final StringBuilder text = new StringBuilder();
@@ -83,9 +84,9 @@ final class Seen {
     /** What is read from AT on, and what is read from the front on, up to the end or a fault. */
     private void input() {
         for (boolean front : new boolean[] {false, true}) {
-            int i = 0;
-            while (readInto(i, front) == 0) {
-                i++;
+            int fault = 0;
+            for (int i = 0; i < MOST_READ && fault == 0; i++) {
+                fault = readInto(i, front);
             }
         }
     }
