@@ -1,6 +1,7 @@
 /**
  * Terms of functions as bytes: put together from below, written in one way alone, and read again,
- * whatever bytes there are, by the number and place of the first fault.
+ * whatever bytes there are, by the number and place of the first fault; all variables that are read
+ * are bound.
  */
 public final class TermCodec {
     public static final int NONE = -1;
@@ -23,6 +24,7 @@ public final class TermCodec {
     private static final int MAX_BYTES = 64;
     private static final int MAX_ROW = 4096;
     private static final int MAX_PIECE = 8;
+    private static final int MAX_UNSIGNED = 2147483647;
     private static final int MAX_UNSIGNED_GROUPS = 5;
     private static final int MAX_SIGNED_GROUPS = 10;
 
@@ -661,7 +663,7 @@ public final class TermCodec {
                 number |= (long) (b & 127) << (7 * n);
                 n++;
             }
-            if (b >= 128 || number > Integer.MAX_VALUE || Format.unsignedGroups(number) != n) {
+            if (b >= 128 || number > MAX_UNSIGNED || Format.unsignedGroups(number) != n) {
                 fail(FAULT_FORM, next - 1);
             }
             return number;
