@@ -337,15 +337,30 @@ public final class TermCodec {
         int terms = 0;
         int nodes = 0;
 
+        /** The place of NODE 0 of TERM t, the deepest being 0, or NONE. */
+        private int rootOf(int t) {
+            if (t < 0 || t >= terms || t >= MAX_NODES) {
+                return NONE;
+            }
+            return isPlace(roots[t]) ? roots[t] : NONE;
+        }
+
         /** The place of the last TERM's NODE 0, or NONE. */
         int lastRoot() {
-            return terms < 1 || terms > MAX_NODES ? NONE : roots[terms - 1];
+            return rootOf(terms - 1);
         }
 
         /** The place of the last TERM's NODE k, or NONE. */
         int find(int k) {
             int root = lastRoot();
-            return root < 0 || k < 0 || k >= sizes[root] ? NONE : root + k;
+            if (root < 0 || k < 0 || k >= sizes[root]) {
+                return NONE;
+            }
+            return isPlace(root + k) ? root + k : NONE;
+        }
+
+        private static boolean isPlace(int i) {
+            return i >= 0 && i < MAX_NODES;
         }
 
         int lastLength() {
@@ -355,11 +370,12 @@ public final class TermCodec {
 
         /** The number of the NODE that the last TERM's NODE k is of at once. */
         int parentOf(int k) {
+            int i = find(k);
             int root = lastRoot();
             // All that NODE k is of reach over it; the nearest of them is the one at once.
-            for (int j = k - 1; j >= 0; j--) {
-                if (root >= 0 && j + sizes[root + j] > k) {
-                    return j;
+            for (int j = i - 1; j >= root && j >= 0; j--) {
+                if (j + sizes[j] > i) {
+                    return j - root;
                 }
             }
             return NONE;
@@ -370,13 +386,16 @@ public final class TermCodec {
         }
 
         int byteIn(int i, int j) {
-            return Format.byteOf(words[i * WORDS + j / 8], 7 - j % 8);
+            int word = i * WORDS + j / 8;
+            return word < 0 || word >= words.length ? NONE : Format.byteOf(words[word], 7 - j % 8);
         }
 
         void setByte(int i, int j, int b) {
             int word = i * WORDS + j / 8;
             int shift = 8 * (7 - j % 8);
-            words[word] = (words[word] & ~(255L << shift)) | ((long) b << shift);
+            if (word >= 0 && word < words.length) {
+                words[word] = (words[word] & ~(255L << shift)) | ((long) b << shift);
+            }
         }
 
         void setNode(int i, int kind, long number) {
@@ -391,17 +410,18 @@ public final class TermCodec {
                 return false;
             }
             for (int t = terms - parts; t < terms; t++) {
-                if (depths[roots[t]] >= MAX_DEPTH) {
+                int part = rootOf(t);
+                if (part < 0 || depths[part] >= MAX_DEPTH) {
                     return false;
                 }
             }
-            int root = parts == 0 ? nodes : roots[terms - parts];
+            int root = parts == 0 ? nodes : rootOf(terms - parts);
             copyNodes(root, root + 1, nodes - root);
             setNode(root, kind, number);
             settle(root);
             nodes++;
-            terms = terms - parts + 1;
-            roots[terms - 1] = root;
+            terms -= parts;
+            pushTerm(root);
             return true;
         }
 
@@ -452,7 +472,7 @@ public final class TermCodec {
             nodes--;
             terms--;
             int part = root;
-            for (int p = 0; p < parts && part < nodes; p++) {
+            for (int p = 0; p < parts && isPlace(part); p++) {
                 pushTerm(part);
                 part += sizes[part];
             }
@@ -462,7 +482,7 @@ public final class TermCodec {
         /** The NODES set from the last TERM's end up to this place become a TERM. */
         void adopt(int end) {
             // What a NODE is of stands behind it, and must be settled before it.
-            for (int i = end - 1; i >= nodes; i--) {
+            for (int i = Math.min(end, MAX_NODES) - 1; i >= nodes; i--) {
                 settle(i);
             }
             pushTerm(nodes);
@@ -470,15 +490,12 @@ public final class TermCodec {
         }
 
         boolean lastTwoAlike() {
-            if (terms < 2) {
+            int one = rootOf(terms - 2);
+            int other = rootOf(terms - 1);
+            if (one < 0 || other < 0 || sizes[one] != sizes[other]) {
                 return false;
             }
-            int one = roots[terms - 2];
-            int other = roots[terms - 1];
-            if (sizes[one] != sizes[other]) {
-                return false;
-            }
-            for (int k = 0; k < sizes[one]; k++) {
+            for (int k = 0; k < sizes[one] && isPlace(one + k) && isPlace(other + k); k++) {
                 if (!alike(one + k, other + k)) {
                     return false;
                 }
